@@ -47,7 +47,9 @@ public final class FiresTest {
         Check.due("fireAt of the latest fire", x.fireAt(0, 0, 2), 135);
         dueFire(x, 60, 0, 1, 0, 0, 0);
         Check.due("fireAt of no cells", x.fireAt(0, 0, 0), PailRow.NONE);
-        PailRow cold = Check.yard("cells 9;");
+        PailRow cold = Check.yard("cells 99;burn 0 0;burn 1 0;");
+        dueFire(cold, 1, 0, 0, 0, 2, PailRow.NONE);
+        Check.dueYard(cold, "cells 9;", 1, 0);
         dueFire(cold, 5, 7, 1, 0, 0, 0);
         dueAt(cold, 0, 0, 9, 0, 0);
         dueFire(cold, 5, 7, 100, 0, 0, 0);
@@ -208,9 +210,12 @@ public final class FiresTest {
         PailRow nine = Check.yard("cells 10101010;cells 00000000;cells 10101010;cells 00000000;cells 90000000;"
                 + "burn 0 0;burn 2 0;burn 4 0;burn 6 0;burn 0 2;burn 2 2;burn 4 2;burn 6 2;burn 0 4;");
         dueAims(nine, 1, 90, 16, 100);
-        // Twenty minutes in all: of 27 fuel in a chain of three, the last one burns two minutes less.
-        PailRow chain = Check.yard("cells 9909;cells 0999;burn 0 0;");
+        // Seventeen cells catch one behind the other, and burn for 25 minutes: 20 count in all.
+        PailRow chain = Check.yard("cells 99999999;cells 00000009;cells 99999999;burn 0 0;");
+        Check.due("25 minutes", chain.fire(25, 0, 0, 0), 17 * 9);
+        Check.due("20 minutes", chain.fire(20, 0, 0, 0), 17 * 9 - 1 - 2 - 3 - 4 - 5);
         Check.due("20 minutes", chain.aims(1, 0), chain.fire(20, 0, 0, 0));
+        Check.due("20 minutes", chain.aims(3, 0), chain.fire(20, 0, 0, 0));
     }
 
     private static void givingUp() {

@@ -10,7 +10,9 @@ public final class NightsTest {
         aimsAtNight();
         giving();
         saying();
+        newYards();
         images();
+        wholeImages();
         counting();
         Check.end();
     }
@@ -158,6 +160,77 @@ public final class NightsTest {
         Check.due("said(0) of the new plan", x.said(0), 8);
         Check.duePlan(x, "at 0 give 0;", 1, 0);
         Check.due("said(0) of the new plan", x.said(0), 0);
+    }
+
+    private static void newYards() {
+        PailRow x = planned(BARN, "at 0 row al bo;at 1 aim 0;at 2 give 0;");
+        dueNight(x, 0, 40, 1, 1, 40);
+        Check.dueYard(x, BARN, 7, 0);
+        dueNight(x, 0, 0, 1, 1, 100);
+        Check.dueYard(x, BARN + "back 9", -1 - BARN.length() - 6, 1);
+        dueNight(x, 0, 0, 1, 1, 100);
+        Check.duePlan(x, "at 0 give 0;at 1 run al;at 2 stop;at 3 row bo al;at 4 run bo;", 5, 0);
+        dueNight(x, 0, 0, 0, 0, 100);
+        Check.duePlan(x, "at 0 aim 0;at 0 row bo al;at 1 stop;", 3, 0);
+        Check.due("night(0, 0)", x.night(0, 0), Check.men(x, 1, 0).row(60));
+        Check.duePlan(x, "at 0 row al bo;at 0 stop;at 1 aim 2;at 2 run al;", 4, 0);
+        dueNight(x, 0, 0, 1, 1, 100);
+        Check.due("night(2, 0)", x.night(2, 0), 15);
+    }
+
+    private static void wholeImages() {
+        String first = "man al 9 1 1;man bo 9 1 1;man cy 9 1 1;way 99;pails 2 20;well 30 70;spill 90;back 99;throw 9;"
+                + "cells 939;cells 999;burn 0 0;burn 1 1;wind west;";
+        String second = "man dy 1 9 9;way 10;pails 30 1;well 1 9999;spill 0;back 1;throw 1;cells 5;wind east;";
+        PailRow x = planned(first, "at 1 row al bo cy;at 20 aim 3;at 25 run bo;at 50 give 1;");
+        Check.dueSentence(x, "not (lost>9 and thrown=0) or water<40", 5, 0);
+        int before = digest(x);
+        x.image(0);
+        Check.dueYard(x, second, 9, 0);
+        Check.duePlan(x, "at 0 run dy;at 1 aim 100;at 1 stop;at 2 run dy;", 4, 0);
+        Check.dueSentence(x, "out", 1, 0);
+        int behind = digest(x);
+        x.image(1);
+        x.restore(0);
+        Check.due("all as kept", digest(x), before);
+        Check.due("a NAME is told twice", Check.tape(x, "at 0 run dy;").plan(), -10);
+        x.restore(1);
+        Check.due("all as kept", digest(x), behind);
+        x.restore(0);
+        Check.due("all as kept", digest(x), before);
+        Check.due("alike", before == behind, false);
+        // What is told behind an image does not reach into it.
+        Check.duePlan(x, "at 7 run cy;", 1, 0);
+        Check.dueSentence(x, "minute<3", 1, 0);
+        x.restore(1);
+        x.restore(0);
+        Check.due("all as kept", digest(x), before);
+        Check.dueYard(x, first + "way 20;", -1 - first.length(), 3);
+        Check.due("all as kept", digest(x), before);
+    }
+
+    /** All that yard, plan and sentence show, as one number. */
+    private static int digest(PailRow x) {
+        int sum = 0;
+        for (int what = 0; what <= 6; what++) {
+            sum = sum * 31 + x.count(what);
+        }
+        for (int m = 0; m < x.count(0); m++) {
+            sum = ((sum * 31 + x.man(m, 0)) * 31 + x.man(m, 1)) * 31 + x.man(m, 2);
+        }
+        for (int m = 0; m < 60; m++) {
+            for (int what = 0; what < 4; what++) {
+                sum = sum * 31 + x.night(m, what);
+            }
+            sum = sum * 31 + x.said(m);
+        }
+        sum = sum * 31 + Check.men(x, 0, 1, 2).row(900);
+        for (int what = 0; what <= 5; what++) {
+            sum = sum * 31 + x.rowBy(what);
+        }
+        sum = sum * 31 + Check.men(x, 0).running(900);
+        sum = sum * 31 + x.fire(5, 3, 2, 1);
+        return sum * 31 + x.said(-1);
     }
 
     private static void images() {

@@ -112,6 +112,9 @@ public final class RowsTest {
         dueRow(x, 200, 30, 0, 1, 2);
         Check.due("rowBy(0)", x.rowBy(0), 7);
         Check.due("rowBy(1)", x.rowBy(1), 2);
+        dueRow(x, 6, 0, 0, 1, 2);
+        Check.due("rowBy(0) of a row that begins anew", x.rowBy(0), 1);
+        Check.due("rowBy(1) of a row that begins anew", x.rowBy(1), 1);
         // Both places have one pail at most: the first of them.
         PailRow like = Check.yard(PAIR.replace(";way", ";man cy 1 1 1;way"));
         dueRow(like, 300, 25, 0, 1, 2);

@@ -11,6 +11,7 @@ public final class TextsTest {
         yardTwice();
         yardTooMany();
         yardStays();
+        yardBeginsAnew();
         longTexts();
         plans();
         planFaults();
@@ -94,6 +95,7 @@ public final class TextsTest {
         Check.dueYard("Way 20;", -1, 1);
         Check.dueYard("man abcdef 1 1 1;", 1, 0);
         Check.dueYard("man abcdefg 1 1 1;", -5, 1);
+        Check.dueYard("man azz 1 1 1;man az 1 1 1;man zzzzzz 1 1 1;", 3, 0);
         Check.dueYard("man a1 1 1 1;", -5, 1);
         Check.dueYard("man al 1 1 1", -13, 1);
         Check.dueYard("man al 1 1", -11, 1);
@@ -194,6 +196,49 @@ public final class TextsTest {
         Check.due("said(-1)", x.said(-1), PailRow.NONE);
     }
 
+    /** Nothing of the yards ahead is left in a new one. */
+    private static void yardBeginsAnew() {
+        String full = "man al 9 1 1;man bo 9 1 1;man cy 9 1 1;way 99;pails 1 1;well 30 7;spill 90;back 99;throw 9;"
+                + "cells 99;cells 99;burn 0 0;burn 1 1;wind west;";
+        String bare = "man al 1 2 5;man bo 1 2 5;cells 99;burn 0 0;";
+        PailRow x = new PailRow();
+        for (int i = 0; i < 3; i++) {
+            Check.dueYard(x, full, 14, 0);
+        }
+        Check.dueYard(x, "", 0, 0);
+        Check.dueYard(x, "", 0, 0);
+        PailRow fresh = new PailRow();
+        dueAlike(x, fresh);
+        Check.dueYard(x, full, 14, 0);
+        Check.dueYard(x, full, 14, 0);
+        Check.dueYard(x, bare, 4, 0);
+        Check.dueYard(fresh, bare, 4, 0);
+        dueAlike(x, fresh);
+        Check.dueYard(x, full, 14, 0);
+        Check.dueYard(x, bare + "cells 9", -1 - bare.length() - 6, 2);
+        Check.dueYard(x, bare + "cells 88;", 5, 0);
+        Check.dueYard(fresh, bare + "cells 88;", 5, 0);
+        dueAlike(x, fresh);
+    }
+
+    private static void dueAlike(PailRow x, PailRow fresh) {
+        for (int what = 0; what <= 6; what++) {
+            Check.due("count(" + what + ") behind others", x.count(what), fresh.count(what));
+        }
+        Check.due("row behind others", Check.men(x, 0, 1).row(700), Check.men(fresh, 0, 1).row(700));
+        for (int what = 0; what <= 5; what++) {
+            Check.due("rowBy(" + what + ") behind others", x.rowBy(what), fresh.rowBy(what));
+        }
+        Check.due("running behind others", Check.men(x, 0, 1).running(700), Check.men(fresh, 0, 1).running(700));
+        for (int m = 0; m < 60; m++) {
+            for (int what = 0; what < 4; what++) {
+                Check.due("night behind others", x.night(m, what), fresh.night(m, what));
+            }
+        }
+        Check.due("fire behind others", x.fire(1, 0, 0, 0), fresh.fire(1, 0, 0, 0));
+        Check.due("out behind others", x.out(), fresh.out());
+    }
+
     private static String padded(String text, int length) {
         StringBuilder all = new StringBuilder(text);
         while (all.length() < length) {
@@ -223,6 +268,15 @@ public final class TextsTest {
                 + "at 59 give 2;", 7, 0);
         Check.due("count(4)", x.count(4), 7);
         Check.duePlan(x, "at 5 run bo al\n;", 1, 0);
+        StringBuilder men = new StringBuilder();
+        StringBuilder named = new StringBuilder();
+        for (int i = 0; i < 12; i++) {
+            men.append("man m").append((char) ('a' + i)).append(" 1 1 1;");
+            named.append(" m").append((char) ('a' + i));
+        }
+        PailRow twelve = Check.yard(men.toString());
+        Check.duePlan(twelve, "at 0 row" + named + ";at 1 run" + named + ";", 2, 0);
+        Check.duePlan(twelve, "at 0 row" + named + " ma;", -1 - 9 - named.length(), 3);
     }
 
     private static void planFaults() {
