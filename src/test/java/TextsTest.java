@@ -178,6 +178,10 @@ public final class TextsTest {
             rows.append("cells 12345678;");
         }
         Check.dueYard(rows.toString(), 8, 0);
+        Check.dueYard(rows + "burn 7 7;", 9, 0);
+        Check.dueYard(rows + "burn 0 8;", -1 - rows.length() - 7, 2);
+        Check.dueYard(rows + "burn 8 0;", -1 - rows.length() - 5, 2);
+        Check.dueYard(rows + "burn 7 99999999;", -1 - rows.length() - 7, 2);
         Check.dueYard(rows + "cells 1;", -1 - rows.length(), 4);
         Check.dueYard(men + rows.toString() + "way 20", -1 - men.length() - rows.length() - 6, 1);
     }
