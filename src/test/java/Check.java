@@ -3,8 +3,16 @@ import java.util.NoSuchElementException;
 
 /** What the tests share: counting wrong answers, and putting texts and bytes on a tape. */
 final class Check {
+    /** What dueRange asks of a call that throws NoSuchElementException. */
+    static final long NO_SUCH = Long.MIN_VALUE;
+
+    /** Numbers far off, and those that a cut to eight or sixteen bits would bring near. */
+    private static final int[] FAR = {Integer.MIN_VALUE, Integer.MIN_VALUE + 1, -65536, -256, -1000, 65536, 1 << 24,
+        Integer.MAX_VALUE - 1, Integer.MAX_VALUE};
+
     private static int wrong = 0;
     private static int asked = 0;
+    private static String promise = "";
 
     private Check() {
     }
@@ -13,12 +21,70 @@ final class Check {
         long answer();
     }
 
+    interface CallOf {
+        long answer(int number);
+    }
+
+    /** What is due from here on belongs to this promise of the document. */
+    static void promise(int number) {
+        promise = "promise " + number + ": ";
+    }
+
     static void due(String what, long got, long want) {
         asked++;
         if (got != want) {
             wrong++;
-            System.out.println(what + " answered " + got + ", due is " + want);
+            System.out.println(promise + what + " answered " + got + ", due is " + want);
         }
+    }
+
+    /** What a call answers; NO_SUCH, if it throws NoSuchElementException. */
+    static long answerOf(Call call) {
+        try {
+            return call.answer();
+        } catch (NoSuchElementException e) {
+            return NO_SUCH;
+        }
+    }
+
+    /** A call takes the numbers from least to most, and refuses the next ones on both sides and those far off. */
+    static void dueRange(String what, int least, int most, long refusal, CallOf call) {
+        for (int number : new int[] {least, most}) {
+            boolean refused = answerOf(() -> call.answer(number)) == refusal;
+            due(what + " of " + number + " is refused", refused, false);
+        }
+        due(what + " of " + (least - 1), answerOf(() -> call.answer(least - 1)), refusal);
+        due(what + " of " + (most + 1), answerOf(() -> call.answer(most + 1)), refusal);
+        for (int number : FAR) {
+            due(what + " of " + number, answerOf(() -> call.answer(number)), refusal);
+        }
+    }
+
+    /** Men or houses from 0 on. */
+    static int[] rising(int count) {
+        int[] numbers = new int[count];
+        for (int i = 0; i < count; i++) {
+            numbers[i] = i;
+        }
+        return numbers;
+    }
+
+    /** The lines of so many men, ma, mb, .., all alike: 1 TICK, 1 yard a TICK, and a power. */
+    static String alike(int count, int power) {
+        StringBuilder lines = new StringBuilder();
+        for (int m = 0; m < count; m++) {
+            lines.append("man m").append((char) ('a' + m)).append(" 1 1 ").append(power).append(';');
+        }
+        return lines.toString();
+    }
+
+    /** A text with blanks behind it, so that it has so many bytes. */
+    static String padded(String text, int length) {
+        StringBuilder all = new StringBuilder(text);
+        while (all.length() < length) {
+            all.append(' ');
+        }
+        return all.toString();
     }
 
     static void due(String what, boolean got, boolean want) {
@@ -30,7 +96,7 @@ final class Check {
         try {
             long got = call.answer();
             wrong++;
-            System.out.println(what + " answered " + got + ", due is NoSuchElementException");
+            System.out.println(promise + what + " answered " + got + ", due is NoSuchElementException");
         } catch (NoSuchElementException e) {
             return;
         }

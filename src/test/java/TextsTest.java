@@ -243,26 +243,18 @@ public final class TextsTest {
         Check.due("out behind others", x.out(), fresh.out());
     }
 
-    private static String padded(String text, int length) {
-        StringBuilder all = new StringBuilder(text);
-        while (all.length() < length) {
-            all.append(' ');
-        }
-        return all.toString();
-    }
-
     private static void longTexts() {
-        Check.dueYard(padded("way 20;", 700), 1, 0);
-        Check.dueYard(padded("way 20;", 701), -701, 1);
-        Check.dueYard(padded("way 9;", 740), -5, 2);
-        Check.dueYard(padded("", 699) + "way 20;", -701, 1);
-        Check.dueYard(padded("", 698) + "wayxyzq;", -699, 1);
-        Check.dueYard(padded("way", 699) + "9999;", -700, 2);
-        Check.dueYard(padded("way", 699) + "20;", -701, 1);
-        Check.dueYard(padded("way", 700) + "9;", -701, 1);
-        Check.dueYard(padded("way 20", 699) + ";", 1, 0);
-        Check.dueYard(padded("way 20", 700) + ";", -701, 1);
-        Check.dueYard(padded("way", 690), -691, 1);
+        Check.dueYard(Check.padded("way 20;", 700), 1, 0);
+        Check.dueYard(Check.padded("way 20;", 701), -701, 1);
+        Check.dueYard(Check.padded("way 9;", 740), -5, 2);
+        Check.dueYard(Check.padded("", 699) + "way 20;", -701, 1);
+        Check.dueYard(Check.padded("", 698) + "wayxyzq;", -699, 1);
+        Check.dueYard(Check.padded("way", 699) + "9999;", -700, 2);
+        Check.dueYard(Check.padded("way", 699) + "20;", -701, 1);
+        Check.dueYard(Check.padded("way", 700) + "9;", -701, 1);
+        Check.dueYard(Check.padded("way 20", 699) + ";", 1, 0);
+        Check.dueYard(Check.padded("way 20", 700) + ";", -701, 1);
+        Check.dueYard(Check.padded("way", 690), -691, 1);
     }
 
     private static void plans() {
@@ -327,14 +319,14 @@ public final class TextsTest {
 
     private static void longPlans() {
         PailRow x = Check.yard(TWO);
-        Check.duePlan(x, padded("at 1 stop;", 400), 1, 0);
-        Check.duePlan(x, padded("at 1 stop;", 401), -401, 1);
-        Check.duePlan(x, padded("at 60", 401), -4, 2);
-        Check.dueSentence(x, padded("out", 200), 1, 0);
-        Check.dueSentence(x, padded("out", 201), -201, 1);
-        Check.dueSentence(x, padded("lost=", 199) + "12", -201, 1);
-        Check.dueSentence(x, padded("lost=", 199) + "1x", -200, 1);
-        Check.dueSentence(x, padded("out", 199) + "x", -200, 1);
+        Check.duePlan(x, Check.padded("at 1 stop;", 400), 1, 0);
+        Check.duePlan(x, Check.padded("at 1 stop;", 401), -401, 1);
+        Check.duePlan(x, Check.padded("at 60", 401), -4, 2);
+        Check.dueSentence(x, Check.padded("out", 200), 1, 0);
+        Check.dueSentence(x, Check.padded("out", 201), -201, 1);
+        Check.dueSentence(x, Check.padded("lost=", 199) + "12", -201, 1);
+        Check.dueSentence(x, Check.padded("lost=", 199) + "1x", -200, 1);
+        Check.dueSentence(x, Check.padded("out", 199) + "x", -200, 1);
     }
 
     private static void sentences() {
