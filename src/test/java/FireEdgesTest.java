@@ -186,14 +186,18 @@ public final class FireEdgesTest {
                 int times = still ? 1 : WIND_X[w] == WIND_X[side] && WIND_Y[w] == WIND_Y[side] ? 2
                         : WIND_X[w] == -WIND_X[side] && WIND_Y[w] == -WIND_Y[side] ? 0 : 1;
                 for (int fuel = 1; fuel <= 9; fuel++) {
-                    dueCaught("cells 999;cells 9" + fuel + "9;cells 999;burn 1 1;" + (still ? "" : "wind " + WINDS[w] + ";"),
-                            1 + WIND_X[side], 1 + WIND_Y[side], times * fuel >= 5);
+                    String barn = "cells 999;cells 9" + fuel + "9;cells 999;burn 1 1;";
+                    dueCaught(barn + (still ? "" : "wind " + WINDS[w] + ";"), 1 + WIND_X[side], 1 + WIND_Y[side],
+                            times * fuel >= 5);
                 }
             }
         }
         dueCaught("cells 29;burn 0 0;wind east;", 1, 0, false);
         dueCaught("cells 39;burn 0 0;wind east;", 1, 0, true);
         dueCaught("cells 99;burn 0 0;wind west;", 1, 0, false);
+        // None is not less than none: 6 from the west, nothing from the east.
+        dueCaught("cells 399;burn 0 0;burn 2 0;wind east;", 1, 0, true);
+        dueCaught("cells 299;burn 0 0;burn 2 0;wind east;", 1, 0, false);
         dueCaught("cells 49;burn 0 0;wind south;", 1, 0, false);
         dueCaught("cells 59;burn 0 0;wind south;", 1, 0, true);
     }
@@ -277,7 +281,8 @@ public final class FireEdgesTest {
         x.fire(1, 1, aim, 0);
         int columns = x.count(1);
         for (int i = 0; i < columns * x.count(2); i++) {
-            Check.due(cells + " AIM " + aim + " wets CELL " + i, x.fireAt(i % columns, i / columns, 2), i == target ? 1 : 0);
+            int wet = i == target ? 1 : 0;
+            Check.due(cells + " AIM " + aim + " wets CELL " + i, x.fireAt(i % columns, i / columns, 2), wet);
         }
     }
 
@@ -336,7 +341,7 @@ public final class FireEdgesTest {
         dueWet(x, "whatever is seen", 15);
     }
 
-    /** At minute m by what burned at m less L: the first burns at the beginning, the second is fuller from minute 1 on. */
+    /** At minute m by what burned at m less L: the first burns at the beginning, the second is fuller from then on. */
     private static void seenLate() {
         Check.promise(22);
         PailRow x = Check.yard("cells 59;burn 0 0;");

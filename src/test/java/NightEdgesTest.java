@@ -22,6 +22,7 @@ public final class NightEdgesTest {
         nightBegins();
         nightGoesOn();
         nightBeginsAnew();
+        nightOfAnother();
         nightAims();
         nightGivesUp();
         nightWithoutWater();
@@ -330,6 +331,9 @@ public final class NightEdgesTest {
             Check.due("night(" + m + ", 0) of a run", run.night(m, 0), thrown - before);
             before = thrown;
         }
+        // Drawings begin in the TICKS 1, 8, 26, 41 and 51; what is drawn is gone from then on.
+        Check.due("night(0, 3) of a run", run.night(0, 3), 500 - 7 * 5);
+        Check.due("night(59, 3) of a run", run.night(59, 3), 0);
     }
 
     /** All pails at the well, what is in the well as it is, nobody tired. */
@@ -357,6 +361,43 @@ public final class NightEdgesTest {
         String far = "man al 1 2 1;way 99;pails 1 20;well 10 9999;";
         dueThrown(planned(far, "at 0 run al;"), 0, 0, 10);
         dueThrown(planned(far, "at 0 run al;at 1 run al;at 2 run al;"), 0, 0, 0, 0, 10);
+    }
+
+    /** Another PLAN, longer or shorter, with other MEN at the same places. */
+    private static void nightOfAnother() {
+        Check.promise(30);
+        StringBuilder yard = new StringBuilder();
+        StringBuilder names = new StringBuilder();
+        StringBuilder turned = new StringBuilder();
+        for (int m = 0; m < 12; m++) {
+            yard.append("man m").append((char) ('a' + m)).append(' ').append(1 + m % 9).append(' ').append(9 - m % 9);
+            yard.append(" 9;");
+            names.append(" m").append((char) ('a' + m));
+            turned.insert(0, " m" + (char) ('a' + m));
+        }
+        yard.append("pails 30 3;cells 999;cells 999;burn 0 0;");
+        String[] plans = {"at 0 run" + names + ";at 1 row" + turned + ";at 2 run" + turned + ";at 3 row" + names + ";",
+            "at 0 stop;at 1 row mb ma;at 1 stop;at 2 row mc md;", "at 0 aim 112;at 0 run ma mb;at 9 give 2;at 10 stop;",
+            "at 0 row" + names + ";", "", "at 0 give 0;at 0 give 1;at 0 row ma mb mc;at 0 stop;",
+            "at 0 row ma mb;at 0 row mb ma;at 0 aim 0;at 7 stop;at 8 stop;", "at 2 run mi;"};
+        PailRow x = Check.yard(yard.toString());
+        for (int i = 0; i < plans.length * plans.length; i++) {
+            String plan = plans[i % 2 == 0 ? i / 2 % plans.length : i * 5 % plans.length];
+            int things = Check.tape(x, plan).plan();
+            PailRow fresh = planned(yard.toString(), plan);
+            Check.due("things", things, fresh.count(4));
+            for (int m = 0; m < 60; m++) {
+                for (int what = 0; what <= 3; what++) {
+                    Check.due("night(" + m + ", " + what + ") of " + plan, x.night(m, what), fresh.night(m, what));
+                }
+            }
+        }
+        // Of twelve, told as the first thing or as a later one, all stand as told.
+        PailRow late = planned(yard.toString(), "at 0 stop;at 0 stop;at 0 row" + turned + ";");
+        Check.due("night(0, 0)", late.night(0, 0), Check.men(late, 11, 10, 9, 8, 7, 6, 5, 4, 3, 2, 1, 0).row(60));
+        PailRow two = planned(yard.toString(), "at 0 stop;at 0 row" + names + ";at 1 run" + turned + ";");
+        Check.due("night(0, 0)", two.night(0, 0), Check.men(two, Check.rising(12)).row(60));
+        Check.due("night(1, 0)", two.night(1, 0), Check.men(two, 11, 10, 9, 8, 7, 6, 5, 4, 3, 2, 1, 0).running(60));
     }
 
     private static void nightAims() {
@@ -710,7 +751,7 @@ public final class NightEdgesTest {
     }
 
     private static void imagesKeepAll() {
-        String full = UNLIKE + "way 45;pails 4 11;well 3 3000;spill 15;back 9;throw 5;cells 919;cells 191;burn 0 0;"
+        String full = UNLIKE + "way 45;pails 4 11;well 3 3000;spill 15;back 9;throw 5;cells 949;cells 494;burn 0 0;"
                 + "burn 1 1;wind south;";
         String plan = "at 0 row al bo cy dy;at 7 row dy al;at 11 run cy bo;at 20 aim 2;at 21 give 1;at 30 row bo cy al;"
                 + "at 40 run dy;at 50 stop;at 55 run al bo cy dy;";
@@ -725,13 +766,14 @@ public final class NightEdgesTest {
                 Check.due("image(" + k + ")", x.image(k), true);
                 Check.due("all behind an image", digest(x), due);
                 Check.tape(x, other).yard();
-                saying(x, "out");
+                saying(x, "burns=0 and(thrown>9 or water>0 or lost<5) or out");
+                saying(x, "burns>0 or(thrown<9 or water<10 or lost=5) or out");
                 Check.tape(x, "at 0 run zu;at 1 stop;at 2 run zu;").plan();
                 Check.due("another yard is unlike", digest(x) == due, false);
                 Check.promise(34);
                 Check.due("restore(" + k + ")", x.restore(k), true);
                 Check.due("all as kept in " + k, digest(x), due);
-                Check.tape(x, "at 0 row bo al dy cy;at 7 run dy al;at 11 row cy bo;at 30 row al cy bo;at 40 run bo;").plan();
+                Check.duePlan(x, "at 0 row bo al dy cy;at 7 run dy al;at 11 row cy bo;at 30 row al cy bo;", 4, 0);
                 Check.due("another plan is unlike", digest(x) == due, false);
                 Check.due("restore(" + k + ") again", x.restore(k), true);
                 Check.due("all as kept in " + k, digest(x), due);

@@ -9,6 +9,7 @@ public final class RowEdgesTest {
         menOfARow();
         ticksOfARow();
         rowTickByTick();
+        rowInOrder();
         wells();
         spilling();
         backAgain();
@@ -120,6 +121,23 @@ public final class RowEdgesTest {
         Check.due("row(10) of three", row(three, 10, 0, 1, 2), 10);
     }
 
+    /** Pails stand in the order in which they came: the last one has what was left in the well. */
+    private static void rowInOrder() {
+        Check.promise(8);
+        PailRow x = Check.yard("man al 1 1 99;man bo 9 1 99;way 10;pails 4 10;well 1 35;throw 9;");
+        // The first is thrown at 24, each next one 18 later; all have come by 17.
+        int[] litres = {0, 10, 20, 30, 35};
+        for (int i = 0; i < 4; i++) {
+            int at = 24 + 18 * i;
+            Check.due("row(" + (at - 1) + ")", row(x, at - 1, 0, 1), litres[i]);
+            Check.due("row(" + at + ")", row(x, at, 0, 1), litres[i + 1]);
+        }
+        // 34 pails: more than stand at a place at once.
+        PailRow many = Check.yard("man al 1 1 99;man bo 9 1 99;way 10;pails 30 10;well 1 335;back 1;throw 9;");
+        Check.due("the 33rd", row(many, 24 + 18 * 32, 0, 1), 330);
+        Check.due("the 34th", row(many, 24 + 18 * 33, 0, 1), 335);
+    }
+
     private static void wells() {
         Check.promise(8);
         int[] wells = {0, 1, 9, 10, 11, 20};
@@ -220,8 +238,9 @@ public final class RowEdgesTest {
         for (int what = 0; what <= 5; what++) {
             Check.due("rowBy(" + what + ") of row(0)", x.rowBy(what), 0);
         }
-        int[][] due = {{1, 0, 0, 10, 0, 0, 10}, {4, 0, 0, 10, 0, 0, 10}, {5, 1, 1, 10, 0, 0, 10}, {7, 1, 1, 10, 0, 0, 10},
-            {8, 1, 1, 10, 0, 1, 0}, {10, 1, 1, 10, 0, 1, 0}, {11, 1, 1, 20, 0, 1, 10}, {28, 1, 1, 25, 0, 3, 0}};
+        int[][] due = {{1, 0, 0, 10, 0, 0, 10}, {4, 0, 0, 10, 0, 0, 10}, {5, 1, 1, 10, 0, 0, 10},
+            {7, 1, 1, 10, 0, 0, 10}, {8, 1, 1, 10, 0, 1, 0}, {10, 1, 1, 10, 0, 1, 0}, {11, 1, 1, 20, 0, 1, 10},
+            {28, 1, 1, 25, 0, 3, 0}};
         for (int[] by : due) {
             row(x, by[0], 0, 1);
             for (int what = 0; what <= 5; what++) {
@@ -380,7 +399,8 @@ public final class RowEdgesTest {
         PailRow x = Check.yard(TWELVE);
         Check.men(x, 2, 1).best();
         Asked[] refused = {y -> Check.men(y, 0).best(), y -> Check.men(y, 0, 0).best(), y -> Check.men(y, 0, 12).best(),
-            y -> Check.men(y, Check.rising(8)).best(), y -> Check.men(y, 0, 1, 2).more(3), y -> Check.men(y, 0, 3).row(5)};
+            y -> Check.men(y, Check.rising(8)).best(), y -> Check.men(y, 0, 1, 2).more(3),
+            y -> Check.men(y, 0, 3).row(5)};
         Check.promise(13);
         for (Asked call : refused) {
             call.of(x);
@@ -549,8 +569,8 @@ public final class RowEdgesTest {
         Check.dueRange("moreAt of two", 0, 1, PailRow.NONE, x::moreAt);
         int sum = x.moreAt(0) + x.moreAt(1);
         Check.due("nine in all", sum, 9);
-        Asked[] refused = {y -> Check.men(y, 0).more(1), y -> Check.men(y, 0, 0).more(1), y -> Check.men(y, 0, 12).more(1),
-            y -> Check.men(y, 0, 1, 2).more(-1), y -> Check.men(y, 0, 1, 2).more(10)};
+        Asked[] refused = {y -> Check.men(y, 0).more(1), y -> Check.men(y, 0, 0).more(1),
+            y -> Check.men(y, 0, 12).more(1), y -> Check.men(y, 0, 1, 2).more(-1), y -> Check.men(y, 0, 1, 2).more(10)};
         for (Asked call : refused) {
             call.of(x);
             Check.due("moreAt of the latest", x.moreAt(0) + x.moreAt(1), 9);

@@ -227,6 +227,14 @@ public final class YardEdgesTest {
             Check.due("running", Check.men(bare, 0, 1).running(ticks), Check.men(told, 0, 1).running(ticks));
         }
         Check.due("a full well", bare.night(0, 3), 9999);
+        // One pail: drawn at 15, thrown at 19, at the well again 20 later.
+        PailRow one = Check.yard(men + "pails 1 8;");
+        Check.men(one, 0, 1).row(19);
+        Check.due("a pail is thrown: rowBy(4)", one.rowBy(4), 1);
+        Check.men(one, 0, 1).row(38);
+        Check.due("a TICK ahead of 20: rowBy(2)", one.rowBy(2), 8);
+        Check.men(one, 0, 1).row(39);
+        Check.due("at 20: rowBy(2)", one.rowBy(2), 16);
         bare.fire(1, 0, 0, 0);
         Check.due("still: 4 is too little to the west", bare.fireAt(0, 0, 1), 0);
         Check.due("still: 4 is too little to the east", bare.fireAt(2, 0, 1), 0);
@@ -371,6 +379,12 @@ public final class YardEdgesTest {
         Check.dueYard(barn + "burn 0 0;burn 0 1;burn 2 0;burn 0 0;", -1 - at - 27 - 7, 3);
         Check.dueYard(barn + "burn 0;", -1 - at - 6, 1);
         Check.dueYard(barn + "burn a 0;", -1 - at - 5, 1);
+        String eight = "cells 99999999;".repeat(8);
+        Check.dueYard(eight + "burn 7 7;", 9, 0);
+        Check.dueYard(eight + "burn 8 7;", -1 - eight.length() - 5, 2);
+        Check.dueYard(eight + "burn 7 8;", -1 - eight.length() - 7, 2);
+        Check.dueYard(eight + "burn 0 8;", -1 - eight.length() - 7, 2);
+        Check.dueYard(eight + "burn 8 8;", -1 - eight.length() - 5, 2);
         // No CELL is told yet, and the second row only later.
         Check.dueYard("burn 0 0;cells 9;", -6, 2);
         Check.dueYard("cells 9;burn 0 1;cells 9;", -8 - 7 - 1, 2);
@@ -480,9 +494,13 @@ public final class YardEdgesTest {
     }
 
     private static void newYard() {
-        PailRow x = Check.yard("man al 1 1 1;man bo 1 1 1;way 40;pails 9 9;well 1 500;cells 92;burn 1 0;wind west;");
+        String full = "man al 1 1 1;man bo 1 1 1;way 40;pails 9 9;well 1 500;spill 50;back 1;throw 9;cells 92;burn 1 0;"
+                + "wind west;";
+        PailRow x = Check.yard(full);
+        Check.dueYard(x, full, 11, 0);
         Check.duePlan(x, "at 0 row al bo;", 1, 0);
         Check.dueSentence(x, "minute<7", 1, 0);
+        Check.due("something is thrown", x.night(5, 0) > 0, true);
         Check.dueYard(x, "", 0, 0);
         int[] counts = {0, 0, 0, 6, 0, 0, 30};
         for (int what = 0; what < counts.length; what++) {
@@ -491,8 +509,19 @@ public final class YardEdgesTest {
         Check.due("no PLAN: night(5, 0)", x.night(5, 0), 0);
         Check.due("a full well: night(5, 3)", x.night(5, 3), 9999);
         Check.due("no SENTENCE: said(-1)", x.said(PailRow.NONE), PailRow.NONE);
-        Check.dueYard(x, "cells 9;", 1, 0);
-        Check.due("cell(0, 0, 1)", x.cell(0, 0, 1), 0);
+        Check.dueYard(x, full, 11, 0);
+        Check.dueYard(x, "cells 99;", 1, 0);
+        Check.due("cell(1, 0, 1)", x.cell(1, 0, 1), 0);
+        Check.dueYard(x, full, 11, 0);
+        Check.dueYard(x, "man al 1 1 9;man bo 1 1 9;cells 39;burn 0 0;", 4, 0);
+        PailRow fresh = Check.yard("man al 1 1 9;man bo 1 1 9;cells 39;burn 0 0;");
+        Check.due("row", Check.men(x, 0, 1).row(300), Check.men(fresh, 0, 1).row(300));
+        for (int what = 0; what <= 5; what++) {
+            Check.due("rowBy(" + what + ")", x.rowBy(what), fresh.rowBy(what));
+        }
+        Check.due("running", Check.men(x, 0, 1).running(300), Check.men(fresh, 0, 1).running(300));
+        Check.due("fire", x.fire(9, 0, 0, 0), fresh.fire(9, 0, 0, 0));
+        Check.due("period", Check.men(x, 0, 1).period(), Check.men(fresh, 0, 1).period());
     }
 
     /** "what other calls told last stays". */
