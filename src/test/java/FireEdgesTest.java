@@ -432,6 +432,10 @@ public final class FireEdgesTest {
         PailRow none = new PailRow();
         dueFire(none, 0, 0, 0, 0, 0);
         dueFire(none, 60, 9, 1, 0, 0);
+        PailRow used = Check.yard("cells 99;burn 0 0;burn 1 0;");
+        dueFire(used, 1, 0, 0, 2, PailRow.NONE);
+        Check.dueYard(used, "cells 9;", 1, 0);
+        dueFire(used, 0, 0, 0, 0, 0);
         Check.promise(24);
         Check.due("a refused fire", x.fire(61, 0, 0, 0), PailRow.NONE);
         Check.due("out() of the latest that was not NONE", x.out(), 1);

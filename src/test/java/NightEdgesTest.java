@@ -663,6 +663,17 @@ public final class NightEdgesTest {
         dueMinutes(x, "minute<5 or minute>9 and minute<12", 7);
         dueMinutes(x, "(minute<5 or minute>9) and minute<12", 7);
         dueMinutes(x, "minute>9 and minute<12 or minute<5", 7);
+        // Nothing of a longer one ahead is left in a shorter one.
+        for (int i = 0; i < 3; i++) {
+            dueMinutes(x, "minute<5 or minute>9 or not(minute<12 and minute>7) or minute=8", 59);
+            dueMinutes(x, "minute<5 and not(minute>9 or minute<12 and minute>7) and minute=8", 0);
+            dueMinutes(x, "minute<5", 5);
+            dueMinutes(x, "minute>5 and minute<9", 3);
+            dueMinutes(x, "not minute<5", 55);
+            dueMinutes(x, "not minute<9", 51);
+            dueMinutes(x, "minute<5", 5);
+            dueMinutes(x, "minute<9", 9);
+        }
         dueMinutes(x, "minute>9 and (minute<12 or minute<15)", 5);
         dueMinutes(x, "not minute<5 and minute<9", 4);
         dueMinutes(x, "not(minute<5 and minute<9)", 55);
@@ -755,7 +766,7 @@ public final class NightEdgesTest {
                 + "burn 1 1;wind south;";
         String plan = "at 0 row al bo cy dy;at 7 row dy al;at 11 run cy bo;at 20 aim 2;at 21 give 1;at 30 row bo cy al;"
                 + "at 40 run dy;at 50 stop;at 55 run al bo cy dy;";
-        String sentence = "(lost>9 and thrown=0 or not water<1000)and not burns=3";
+        String sentence = "minute<20 and not minute=7 or minute>50 or lost>9 and thrown=0";
         PailRow fresh = saying(planned(full, plan), sentence);
         int due = digest(fresh);
         String[] others = {"", "man zu 9 9 9;", full.replace("man al 1 9", "man al 2 9"), UNLIKE + "cells 1;"};
@@ -766,8 +777,8 @@ public final class NightEdgesTest {
                 Check.due("image(" + k + ")", x.image(k), true);
                 Check.due("all behind an image", digest(x), due);
                 Check.tape(x, other).yard();
-                saying(x, "burns=0 and(thrown>9 or water>0 or lost<5) or out");
-                saying(x, "burns>0 or(thrown<9 or water<10 or lost=5) or out");
+                saying(x, "minute>20 and not minute<7 or minute=50 or lost=9 and thrown>0");
+                saying(x, "minute=20 and not minute>7 or minute<50 or lost<9 and thrown<0");
                 Check.tape(x, "at 0 run zu;at 1 stop;at 2 run zu;").plan();
                 Check.due("another yard is unlike", digest(x) == due, false);
                 Check.promise(34);

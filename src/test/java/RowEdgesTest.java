@@ -10,6 +10,7 @@ public final class RowEdgesTest {
         ticksOfARow();
         rowTickByTick();
         rowInOrder();
+        rowBeginsAnew();
         wells();
         spilling();
         backAgain();
@@ -136,6 +137,40 @@ public final class RowEdgesTest {
         PailRow many = Check.yard("man al 1 1 99;man bo 9 1 99;way 10;pails 30 10;well 1 335;back 1;throw 9;");
         Check.due("the 33rd", row(many, 24 + 18 * 32, 0, 1), 330);
         Check.due("the 34th", row(many, 24 + 18 * 33, 0, 1), 335);
+    }
+
+    /** Whatever row was ahead: how many men, how long, how many pails on their way. */
+    private static void rowBeginsAnew() {
+        String yard = TWELVE + "way 10;pails 3 10;well 1 9999;back 30;throw 1;spill 7;";
+        PailRow used = Check.yard(yard);
+        int[] sizes = {12, 2, 3, 2, 11, 4};
+        for (int ticks = 0; ticks <= 240; ticks++) {
+            int[] ahead = Check.rising(sizes[ticks % sizes.length]);
+            int[] men = Check.rising(sizes[(ticks + 1) % sizes.length]);
+            row(used, ticks, ahead);
+            PailRow fresh = Check.yard(yard);
+            String of = "(250) of " + men.length + " behind row(" + ticks + ") of " + ahead.length;
+            Check.promise(8);
+            Check.due("row" + of, row(used, 250, men), row(fresh, 250, men));
+            Check.promise(9);
+            for (int what = 0; what <= 5; what++) {
+                Check.due("rowBy(" + what + ") of row" + of, used.rowBy(what), fresh.rowBy(what));
+            }
+            Check.promise(14);
+            running(used, ticks, ahead);
+            Check.due("running" + of, running(used, 250, men), running(fresh, 250, men));
+        }
+        // The first pail is thrown at 8, and not back yet when the next row begins, whenever it is due.
+        for (int back = 1; back <= 99; back++) {
+            String pair = PAIR.replace("back 3", "back " + back).replace("25", "9999");
+            PailRow x = Check.yard(pair);
+            PailRow fresh = Check.yard(pair);
+            row(x, 8, 0, 1);
+            Check.promise(8);
+            Check.due("row behind a pail on its way back", row(x, 200, 0, 1), row(fresh, 200, 0, 1));
+            Check.promise(9);
+            Check.due("litres drawn", x.rowBy(2), fresh.rowBy(2));
+        }
     }
 
     private static void wells() {
@@ -273,6 +308,9 @@ public final class RowEdgesTest {
         PailRow dry = Check.yard("man al 1 1 99;man bo 1 1 99;man cy 9 1 99;way 10;pails 9 3;well 1 27;throw 9;");
         dueHeap(dry, 3600, 7, 2, 0, 1, 2);
         Check.due("all is thrown", dry.rowBy(4), 9);
+        // Of thirty pails one is in the thrower's hands while all others stand before him.
+        PailRow most = Check.yard("man al 1 1 99;man bo 9 1 99;way 10;pails 30 1;well 1 9999;back 1;throw 9;");
+        dueHeap(most, 3600, 29, 1, 0, 1);
         // Nobody draws: none stood.
         PailRow empty = Check.yard(PAIR.replace("25", "0"));
         dueHeap(empty, 3600, 0, 0, 0, 1);
@@ -584,8 +622,8 @@ public final class RowEdgesTest {
     /** TIMES 9 and 3: 5 3, then of like ones the first: 3 3, 2 3, 2 2, 2 2, 2 2; 9 by 6 is 2, by 7 2, by 9 1. */
     private static void othersOneByOne() {
         PailRow x = Check.yard("man al 1 1 1;man bo 1 1 1;way 10;well 6 9;throw 2;");
-        int[][] due = {{9, 0, 0}, {5, 1, 0}, {3, 2, 0}, {3, 3, 0}, {3, 4, 0}, {2, 4, 1}, {2, 5, 1}, {2, 6, 1}, {2, 7, 1},
-            {2, 8, 1}};
+        int[][] due = {{9, 0, 0}, {5, 1, 0}, {3, 2, 0}, {3, 3, 0}, {3, 4, 0}, {2, 4, 1}, {2, 5, 1}, {2, 6, 1},
+            {2, 7, 1}, {2, 8, 1}};
         for (int n = 0; n < due.length; n++) {
             Check.promise(17);
             Check.due("more(" + n + ")", Check.men(x, 0, 1).more(n), due[n][0]);
