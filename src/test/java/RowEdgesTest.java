@@ -162,7 +162,7 @@ public final class RowEdgesTest {
         }
         // The first pail is thrown at 8, and not back yet when the next row begins, whenever it is due.
         for (int back = 1; back <= 99; back++) {
-            String pair = PAIR.replace("back 3", "back " + back).replace("25", "9999");
+            String pair = PAIR.replace("25", "9999").replace("back 3", "back " + back);
             PailRow x = Check.yard(pair);
             PailRow fresh = Check.yard(pair);
             row(x, 8, 0, 1);
